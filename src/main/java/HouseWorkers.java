@@ -394,38 +394,38 @@ public final class HouseWorkers {
 
     /** The versions; at most one more than there are workers, as each commits once. */
     private static final class Store {
-        private final ArrayList<Cells> versions = new ArrayList<>();
-        private Cells latest = new Cells();
-
-        Store() {
-            versions.add(latest);
-        }
+        private final Cells start = new Cells();
+        private final ArrayList<Cells> committed = new ArrayList<>();
+        private Cells latest = start;
 
         Cells latest() {
             return latest;
         }
 
         int latestNumber() {
-            return versions.size() - 1;
+            return committed.size();
         }
 
         int size() {
-            return versions.size();
+            return committed.size() + 1;
         }
 
         /** The cells of a version, or null if there was no such one so far. */
         Cells find(int version) {
-            if (version < 0 || version >= versions.size()) {
+            if (version == 0) {
+                return start;
+            }
+            if (version < 0 || version > committed.size()) {
                 return null;
             }
-            return versions.get(version);
+            return committed.get(version - 1);
         }
 
         /** The cells become the latest version: its number. Who commits them leaves them alone then. */
         int commit(Cells cells) {
-            versions.add(cells);
+            committed.add(cells);
             latest = cells;
-            return latestNumber();
+            return committed.size();
         }
     }
 
@@ -456,12 +456,13 @@ public final class HouseWorkers {
         /** A step, or the commit behind the last one: GOES_ON or DONE. */
         abstract int goOn(Store store);
 
-        boolean commits() {
+        /** Whether it is a stream that has still to get that version. */
+        boolean isToGet(int version) {
             return false;
         }
 
-        boolean isToGet(int version) {
-            return false;
+        boolean commits() {
+            return kind == KIND_WRITER || kind == KIND_REASONING;
         }
 
         boolean hasEnded() {
@@ -494,12 +495,10 @@ public final class HouseWorkers {
             pinned = version;
         }
 
-        @Override
         boolean waits(Store store, boolean nobodyBefore) {
             return false;
         }
 
-        @Override
         int goOn(Store store) {
             answer = 31 * answer + read.at(first + stepsDone);
             stepsDone++;
@@ -518,17 +517,10 @@ public final class HouseWorkers {
             this.by = by;
         }
 
-        @Override
-        boolean commits() {
-            return true;
-        }
-
-        @Override
         boolean waits(Store store, boolean nobodyBefore) {
             return hasDoneAllSteps() && !nobodyBefore;
         }
 
-        @Override
         int goOn(Store store) {
             if (hasDoneAllSteps()) {
                 draft.addAll(store.latest());
@@ -548,18 +540,11 @@ public final class HouseWorkers {
             super(number, KIND_REASONING, rounds, failsAt);
         }
 
-        @Override
-        boolean commits() {
-            return true;
-        }
-
         // Behind its first round nobody lesser is left, so that it never waits again.
-        @Override
         boolean waits(Store store, boolean nobodyBefore) {
             return stepsDone == 0 && !nobodyBefore;
         }
 
-        @Override
         int goOn(Store store) {
             if (hasDoneAllSteps()) {
                 version = store.commit(cells);
@@ -581,12 +566,10 @@ public final class HouseWorkers {
             version = store.latestNumber();
         }
 
-        @Override
         boolean waits(Store store, boolean nobodyBefore) {
             return version >= store.latestNumber();
         }
 
-        @Override
         int goOn(Store store) {
             Cells next = store.find(version + 1);
             if (next != null) {
@@ -597,7 +580,6 @@ public final class HouseWorkers {
             return GOES_ON;
         }
 
-        @Override
         boolean isToGet(int version) {
             return !hasEnded() && version > this.version;
         }
