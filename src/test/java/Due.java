@@ -1,6 +1,7 @@
 /** Counts and prints the answers of one test that are not the ones that are due. */
 final class Due {
     private final String test;
+    private String sentence = "";
     private int wrong;
     private int asked;
 
@@ -8,11 +9,20 @@ final class Due {
         this.test = test;
     }
 
+    /** A test of one sentence of the document, whose words stand before each of its wrong answers. */
+    void sentence(String words, Runnable itsTest) {
+        int before = asked;
+        sentence = "\"" + words + "\": ";
+        itsTest.run();
+        holds("something is asked", asked > before);
+        sentence = "";
+    }
+
     void is(String call, long want, long got) {
         asked++;
         if (got != want) {
             wrong++;
-            System.out.println(test + ": " + call + " answered " + got + ", due is " + want);
+            System.out.println(test + ": " + sentence + call + " answered " + got + ", due is " + want);
         }
     }
 

@@ -1,9 +1,11 @@
 import java.util.Random;
 
-/** Runs of up to 512 calls, the same each time, in which program and model must answer alike. */
+/** Runs of 512 calls, the same each time, in which program and model must answer alike. */
 public final class ModelTest {
     private static final int RUNS = 3000;
     private static final int CALLS = 512;
+    private static final int LEAST_DEEDS = 100;
+    private static final int MOST_DEEDS = 450;
     private static final int MOST_WRONG = 20;
 
     private static final Due DUE = new Due("ModelTest");
@@ -14,11 +16,12 @@ public final class ModelTest {
     private final int run;
     private final int[] weights;
     private int begun;
+    private int calls;
 
     private ModelTest(int run) {
         this.run = run;
         random = new Random(run);
-        weights = new int[13];
+        weights = new int[14];
         for (int i = 0; i < weights.length; i++) {
             weights[i] = 1 + random.nextInt(8);
         }
@@ -31,12 +34,30 @@ public final class ModelTest {
     public static void main(String[] args) {
         for (int run = 0; run < RUNS && DUE.wrong() < MOST_WRONG; run++) {
             ModelTest test = new ModelTest(run);
-            for (int i = 0; i < CALLS && DUE.wrong() < MOST_WRONG; i++) {
-                test.call(i);
-            }
-            test.compareAll();
+            test.mixedCalls();
+            test.lastQuestions();
         }
         DUE.close();
+    }
+
+    private void mixedCalls() {
+        int until = LEAST_DEEDS + random.nextInt(MOST_DEEDS - LEAST_DEEDS);
+        for (int i = 0; calls < until && DUE.wrong() < MOST_WRONG; i++) {
+            call(i);
+        }
+    }
+
+    /** What the run has come to, up to the last call that the document promises an answer to. */
+    private void lastQuestions() {
+        while (calls < CALLS) {
+            int most = Math.max(0, begun - 1);
+            switch (random.nextInt(4)) {
+                case 0 -> tellCall(near(0, most), near(0, 5));
+                case 1 -> endedCall(near(0, begun), near(0, 2));
+                case 2 -> countCall(near(0, 5));
+                default -> cellCall(near(0, begun), near(0, 15));
+            }
+        }
     }
 
     private int near(int least, int most) {
@@ -83,6 +104,7 @@ public final class ModelTest {
     }
 
     private void same(String call, int want, int got) {
+        calls++;
         DUE.is("run " + run + ": " + call, want, got);
     }
 
@@ -105,7 +127,8 @@ public final class ModelTest {
             case 9 -> same("close()", model.close(), house.close());
             case 10 -> tellCall(a, near(0, 5));
             case 11 -> endedCall(near(0, begun), near(0, 2));
-            default -> readCall(near(0, 5));
+            case 12 -> countCall(near(0, 5));
+            default -> cellCall(near(0, begun), near(0, 15));
         }
     }
 
@@ -150,27 +173,11 @@ public final class ModelTest {
         same("ended(" + i + ", " + what + ")", model.ended(i, what), house.ended(i, what));
     }
 
-    private void readCall(int what) {
+    private void countCall(int what) {
         same("count(" + what + ")", model.count(what), house.count(what));
-        int version = near(0, Math.max(0, model.count(0) - 1));
-        int cell = near(0, 15);
-        same("cell(" + version + ", " + cell + ")", model.cell(version, cell), house.cell(version, cell));
     }
 
-    private void compareAll() {
-        for (int what = -1; what <= 6; what++) {
-            same("count(" + what + ")", model.count(what), house.count(what));
-        }
-        for (int work = -1; work <= begun; work++) {
-            for (int what = -1; what <= 6; what++) {
-                tellCall(work, what);
-                endedCall(work, what);
-            }
-        }
-        for (int version = -1; version <= model.count(0); version++) {
-            for (int cell = -1; cell <= 16; cell++) {
-                same("cell(" + version + ", " + cell + ")", model.cell(version, cell), house.cell(version, cell));
-            }
-        }
+    private void cellCall(int version, int cell) {
+        same("cell(" + version + ", " + cell + ")", model.cell(version, cell), house.cell(version, cell));
     }
 }

@@ -1,25 +1,5 @@
 /** Each promise of the document with ordinary inputs, the edges it names, and wrong inputs. */
-public final class PromisesTest {
-    private static final int BAD = -1;
-    private static final int NO = -2;
-    private static final int FULL = -3;
-    private static final int MIN = Integer.MIN_VALUE;
-    private static final int MAX = Integer.MAX_VALUE;
-
-    private static final int KIND = 0;
-    private static final int END = 1;
-    private static final int STEPS = 2;
-    private static final int ANSWER = 3;
-    private static final int VERSION = 4;
-    private static final int STILL = 5;
-
-    private static final int VERSIONS = 0;
-    private static final int KEPT = 1;
-    private static final int PINNED = 2;
-    private static final int DID = 3;
-    private static final int WAITED = 4;
-    private static final int GO_ON = 5;
-
+public final class PromisesTest extends Houses {
     private static final Due DUE = new Due("PromisesTest");
 
     public static void main(String[] args) {
@@ -103,14 +83,6 @@ public final class PromisesTest {
         x.turn(0);
         DUE.is("put when all ended", NO, x.put(3, 6));
         DUE.is("the cell stays", 5, x.cell(0, 3));
-    }
-
-    private static HouseWorkers squares() {
-        HouseWorkers x = new HouseWorkers();
-        for (int i = 0; i < 16; i++) {
-            x.put(i, i * i);
-        }
-        return x;
     }
 
     private static void questionReads() {
